@@ -7,7 +7,7 @@ import java.util.Set;
 import java.util.TreeSet;
 import java.util.stream.Collectors;
 
-/** The class has the document's face and shows nothing else (rule 1 of LANGUAGE.md). */
+/** The class has the document's face and shows nothing else (rules 1 and 5 of LANGUAGE.md). */
 public final class FaceTest {
     private static final Set<String> FACE = Set.of(
         "public VersionDesk()",
@@ -33,6 +33,8 @@ public final class FaceTest {
         check(shownMembers().equals(FACE), "the members that are not private are the face: " + shownMembers());
         for (Field field : VersionDesk.class.getDeclaredFields()) {
             check(Modifier.isPrivate(field.getModifiers()), "private: " + field);
+            check(!Modifier.isStatic(field.getModifiers()) || Modifier.isFinal(field.getModifiers()),
+                "shared by all objects, so never changed: " + field);
         }
         checkPrivateNames();
         System.out.println(wrong == 0 ? "the face is the document's" : wrong + " things are wrong with the face");

@@ -1,4 +1,4 @@
-/** Each promise of the document: ordinary calls, the edges that it names, wrong inputs. */
+/** Each promise of the document in its ordinary course. Its edges are in EdgesOfTermsTest and EdgesOfPromisesTest. */
 public final class PromisesTest {
     private static final String NO_SUCH = " throws.NoSuchElementException\n";
     private static final Script SCRIPT = new Script();
@@ -11,7 +11,6 @@ public final class PromisesTest {
         push();
         pop();
         commit();
-        commitOfTooMany();
         drop();
         spoiled();
         meets();
@@ -85,7 +84,7 @@ public final class PromisesTest {
             begin(-2147483648) throws.IllegalArgumentException
             count(1) 0
             """);
-        SCRIPT.run("2: all are open", beginAll() + """
+        SCRIPT.run("2: all are open", Rows.each(0, 15, "begin(0) #") + """
             begin(0) throws.IllegalStateException
             begin(1) throws.IllegalStateException
             begin(2) throws.IllegalArgumentException
@@ -96,14 +95,6 @@ public final class PromisesTest {
             drop(7) 0
             begin(1) 7
             """);
-    }
-
-    private static String beginAll() {
-        StringBuilder rows = new StringBuilder();
-        for (int t = 0; t < 16; t++) {
-            rows.append("begin(0) ").append(t).append('\n');
-        }
-        return rows.toString();
     }
 
     private static void read() {
@@ -367,58 +358,6 @@ public final class PromisesTest {
             past(2, 2) 7
             past(3, 1) 8
             """);
-    }
-
-    /** 28 times 18 calls and 8 more make 470 versions: no run of 512 calls comes to 500. */
-    private static void commitOfTooMany() {
-        StringBuilder rows = new StringBuilder();
-        int clock = 0;
-        while (clock < 30) {
-            clock++;
-            rows.append("begin(0) 0\n").append(writeCells(0, 16, clock - 1, clock));
-            rows.append("commit(0) ").append(clock).append('\n');
-        }
-        String tooMany = "begin(1) 0\nbegin(0) 1\n" + writeCells(0, 5, 30, 31) + """
-            count(2) 496
-            commit(0) throws.IllegalStateException
-            count(0) 30
-            count(1) 2
-            count(2) 496
-            about(0, 3) 5
-            push(0) 2
-            pop(0, false) 1
-            """;
-        SCRIPT.runBeyondTheLimit("7: more than 500 versions", rows + tooMany + """
-            drop(0) 5
-            write(1, 0, 9) 30
-            write(1, 1, 9) 30
-            write(1, 2, 9) 30
-            write(1, 3, 9) 30
-            begin(0) 0
-            write(0, 0, 8) 30
-            commit(1) 31
-            count(2) 500
-            begin(0) 1
-            commit(1) 31
-            commit(0) -1
-            begin(0) 0
-            write(0, 9, 1) 30
-            commit(0) throws.IllegalStateException
-            forget() 484
-            commit(0) 32
-            past(0, 32) 9
-            past(9, 32) 1
-            count(2) 17
-            """);
-    }
-
-    private static String writeCells(int t, int cells, int before, int value) {
-        StringBuilder rows = new StringBuilder();
-        for (int cell = 0; cell < cells; cell++) {
-            rows.append("write(").append(t).append(", ").append(cell).append(", ").append(value).append(") ")
-                .append(before).append('\n');
-        }
-        return rows.toString();
     }
 
     private static void drop() {

@@ -13,6 +13,7 @@ final class Script {
     private static final int MOST_CALLS = 512;
     private static final Set<String> LOOKING = Set.of("spoiled", "meets", "past", "about", "count");
 
+    private int runs = 0;
     private int rows = 0;
     private int wrong = 0;
 
@@ -31,23 +32,28 @@ final class Script {
         if (all.size() > MOST_CALLS) {
             throw new AssertionError(title + ": an object is used for at most " + MOST_CALLS + " calls");
         }
+        playThrice(title, all);
+    }
+
+    /** For what no run of 512 calls reaches: the document leaves free what is answered there. */
+    void runBeyondTheLimit(String title, String text) {
+        playThrice(title, rowsOf(text));
+    }
+
+    void end() {
+        System.out.println(runs + " runs, " + rows + " answers looked at, " + wrong + " not as due");
+        System.exit(wrong == 0 ? 0 : 1);
+    }
+
+    private void playThrice(String title, List<Row> all) {
         play(title, all, row -> true);
         play(title + " (without what throws)", all, row -> !row.isThrowing());
         play(title + " (without what looks)", all, row -> !row.isLooking());
     }
 
-    /** For what no run of 512 calls reaches: the document leaves free what is answered there. */
-    void runBeyondTheLimit(String title, String text) {
-        play(title, rowsOf(text), row -> true);
-    }
-
-    void end() {
-        System.out.println(rows + " answers looked at, " + wrong + " not as due");
-        System.exit(wrong == 0 ? 0 : 1);
-    }
-
     private void play(String title, List<Row> all, Predicate<Row> wanted) {
         VersionDesk desk = new VersionDesk();
+        runs++;
         for (Row row : all) {
             if (wanted.test(row)) {
                 look(title, row, row.call().answerOf(desk));
