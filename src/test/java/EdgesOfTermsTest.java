@@ -98,7 +98,7 @@ public final class EdgesOfTermsTest {
 
     private static void numbers() {
         SCRIPT.run(NUMBERS + " All sixteen can be open", Rows.each(0, 15, "about(#, 2) throws.NoSuchElementException")
-            + Rows.each(0, 15, "begin(0) #\nabout(#, 2) 1") + "count(1) 16\n"
+            + Rows.each(0, 15, "begin(0) #\nabout(#, 2) 1") + "begin(0) throws.IllegalStateException\ncount(1) 16\n"
             + Rows.each(0, 15, "drop(#) 0\nabout(#, 2) throws.NoSuchElementException") + "count(1) 0\n");
         SCRIPT.run(NUMBERS + " Each is its own", Rows.each(0, 15, "begin(0) #")
             + Rows.each(0, 15, "write(#, 3, 10#) 0") + Rows.each(0, 15, "read(#, 3) 10#")
